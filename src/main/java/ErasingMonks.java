@@ -1095,13 +1095,16 @@ public final class ErasingMonks {
         private final int[] fates = new int[MOST_MARKS];
         private final int[] crews = new int[MOST_MARKS];
         private final int[] choice = new int[MOST_MONKS];
+        private int limit;
         final int[] best = new int[MOST_MONKS];
         int most;
 
         void plan(Rock now, Rock trial, int days) {
+            limit = 0;
             for (int mark = 0; mark < now.marks; mark++) {
                 fates[mark] = fatesOf(now, trial, mark, days);
                 crews[mark] = 0;
+                limit += fates[mark] == 0 ? 0 : 1;
             }
             most = -1;
             choose(now.marks, now.monks, 0);
@@ -1130,8 +1133,8 @@ public final class ErasingMonks {
                 return;
             }
             int bit = 1 << monk;
-            // Nothing is better than all gone, and of like ones the first stays.
-            for (int mark = 0; mark < marks && most < marks; mark++) {
+            // Nothing is better than all that any crew takes away, and of like ones the first stays.
+            for (int mark = 0; mark < marks && most < limit; mark++) {
                 choice[monk] = mark;
                 crews[mark] |= bit;
                 choose(marks, monks, monk + 1);

@@ -16,9 +16,9 @@ public final class ForetoldTest {
 
     private static void darkAndSize() {
         ErasingMonks x = Due.on("30.4/6,9.1;p20>0,n31>0");
-        // PLAIN 20 16 12 8 4 0; NOVICE 31 27 23 19 15 11 ..: 30 20 12 4 6(what was under) 0
+        // NOVICE has corners on the first day alone. On the 4th PLAIN makes it 0, so 6 comes up,
+        // of which NOVICE leaves 2; on the 5th PLAIN takes them away.
         int[] dark = {30, 20, 12, 4, 2, 0};
-        // On the 4th day PLAIN makes it 0, so 6 comes up, NOVICE makes it 2; on the 5th PLAIN 0.
         int[] plain = {20, 16, 12, 8, 4, 0};
         int[] novice = {31, 27, 23, 19, 15, 15};
         for (int n = 0; n <= 5; n++) {
@@ -53,6 +53,7 @@ public final class ForetoldTest {
         Due.due("P18 crumbs in all from then", x.then(0, 2), 10);
         Due.due("P18 crumbs in all from then", x.then(58, 2), 27);
         Due.due("P18 above", x.then(61, 0), -1);
+        Due.due("P18 two torn", Due.on("60.1,4.1,60.1;s99>0,p1,s99>2").then(60, 1), 1 | 4);
         Due.due("P18 below", x.then(-1, 0), -1);
         Due.due("P18 bad what", x.then(0, 3), -1);
         Due.due("P18 bad what", x.then(0, -1), -1);
@@ -86,7 +87,6 @@ public final class ForetoldTest {
         x = Due.on("60.1/20,60.1/21;p99");
         Due.due("P20 twenty rubs", x.needs(0, 0), 20);
         Due.due("P20 torn ahead", x.needs(0, 1), -4);
-        // The twentieth rub tears it, so what is under does not come up.
         x = Due.on("60.1/16;p99");
         Due.due("P20 nineteen", x.needs(0, 0), 19);
     }
@@ -118,6 +118,10 @@ public final class ForetoldTest {
         Due.due("P21 above", x.sends(31, 0), -1);
         Due.due("P21 below", x.sends(-1, 0), -1);
         Due.due("P21 bad k", x.sends(0, -2), -1);
+        x = Due.on("8.1;p9,p9>0");
+        Due.due("P21 one mark", x.sends(1, -1), 1);
+        Due.due("P21 one mark", x.sends(1, 0), 0);
+        Due.due("P21 one mark", x.sends(1, 1), 0);
         // Two are needed at one mark.
         x = Due.on("60.1,8.1;p9,p9");
         Due.due("P21 both to one", x.sends(1, -1), 1);
@@ -223,7 +227,10 @@ public final class ForetoldTest {
         Due.due("P24 no such monk", x.small(4, 0), -1);
         Due.due("P24 no such mark", x.small(0, 4), -1);
         Due.due("P24 no such", x.small(-1, -1), -1);
-        // Torn ahead without corners: 60 and 40 under want them.
+        x = Due.on("60.7,60.8;p5");
+        Due.due("P24 fourteen whole rubs and a crumb: 99", x.small(0, 0), 99);
+        Due.due("P24 above 99", x.small(0, 1), -4);
+        // Torn ahead without corners: 60 and 30 under want them.
         x = Due.on("60.1/30;n5");
         int least = x.small(0, 0);
         Due.holds("P24 corners are wanted", least > 30);

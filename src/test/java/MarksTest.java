@@ -168,6 +168,7 @@ public final class MarksTest {
         x.seed(77);
         x.days(3);
         Due.due("P7 image", x.image(), 1);
+        Due.due("P16 foretold ahead of a rock", x.dark(0, 9), 0);
         Due.due("P7 marks", Due.rock(x, "60.9/60,0.1/0,00.5/07;p99>0,n0>2,s05,t6>1,a30"), 3);
         int[][] marks = {{60, 9, 60}, {0, 1, 0}, {0, 5, 7}};
         for (int m = 0; m < 3; m++) {

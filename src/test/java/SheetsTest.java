@@ -64,6 +64,10 @@ public final class SheetsTest {
         x = Due.on("9.4;s60>0,p60>0");
         row(x, 0, 2, 56, 56);
         Due.due("P28 by what the first leaves", x.worn(1, 0, 2, 0, 2, 0), 1 | 2 | 4);
+        // A mark that is gone wears nobody, however hard it is.
+        x = Due.on("0.4;p5>0");
+        row(x, 0, 2, 5, 5);
+        Due.due("P28 hard 1 to 9", x.worn(0, 0, 2, 0, 2, 1), 0x3fe);
         // Down to 0.
         x = Due.on("50.4;p5>0");
         row(x, 0, 2, 0, 0);
