@@ -177,17 +177,7 @@ public final class ErasingMonks {
     // ---- what is done
 
     public int days(int n) {
-        if (!within(n, 1, MOST_DAYS)) {
-            return BAD;
-        }
-        if (now.day + n > LAST_DAY) {
-            return FULL;
-        }
-        for (int day = 0; day < n; day++) {
-            known.keep(now);
-            now.passDay(0);
-        }
-        return now.goneSet();
+        return liveThrough(n, false);
     }
 
     public int send(int monk, int mark) {
@@ -227,18 +217,7 @@ public final class ErasingMonks {
     }
 
     public int drift(int n) {
-        if (!within(n, 1, MOST_DAYS)) {
-            return BAD;
-        }
-        if (now.day + n > LAST_DAY) {
-            return FULL;
-        }
-        for (int day = 0; day < n; day++) {
-            known.keep(now);
-            now.drawAndSend();
-            now.passDay(0);
-        }
-        return now.goneSet();
+        return liveThrough(n, true);
     }
 
     public int undo() {
@@ -534,6 +513,24 @@ public final class ErasingMonks {
             return CAST;
         }
         return row.spans(i, n) ? 0 : INDEX;
+    }
+
+    /** n days, each by itself one that may be undone, with who is sent by a draw ahead of it. */
+    private int liveThrough(int n, boolean drifting) {
+        if (!within(n, 1, MOST_DAYS)) {
+            return BAD;
+        }
+        if (now.day + n > LAST_DAY) {
+            return FULL;
+        }
+        for (int day = 0; day < n; day++) {
+            known.keep(now);
+            if (drifting) {
+                now.drawAndSend();
+            }
+            now.passDay(0);
+        }
+        return now.goneSet();
     }
 
     private void foretell(int n) {
