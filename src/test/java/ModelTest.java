@@ -1,6 +1,5 @@
-import java.lang.reflect.InvocationTargetException;
-import java.lang.reflect.Method;
 import java.util.ArrayList;
+import java.util.Arrays;
 import java.util.List;
 import java.util.Random;
 
@@ -23,7 +22,7 @@ public final class ModelTest {
         random = new Random(seed);
     }
 
-    public static void main(String[] args) throws ReflectiveOperationException {
+    public static void main(String[] args) {
         for (int run = 0; run < RUNS; run++) {
             if (!new ModelTest(run).run()) {
                 break;
@@ -32,7 +31,7 @@ public final class ModelTest {
         Due.end();
     }
 
-    private boolean run() throws ReflectiveOperationException {
+    private boolean run() {
         for (int i = 0; i < CALLS; i++) {
             String name = i == 0 ? "TEXT" : NAMES[random.nextInt(NAMES.length)];
             boolean same;
@@ -51,7 +50,7 @@ public final class ModelTest {
         return lookAtAll();
     }
 
-    private boolean lookAtAll() throws ReflectiveOperationException {
+    private boolean lookAtAll() {
         for (int mark = 0; mark < 6; mark++) {
             for (int what = 0; what < 7; what++) {
                 if (!compare("of", mark, what)) {
@@ -69,8 +68,8 @@ public final class ModelTest {
         return true;
     }
 
-    private boolean call(String name) throws ReflectiveOperationException {
-        Object[] args;
+    private boolean call(String name) {
+        long[] args;
         int monk = near(5, 0);
         int mark = near(6, 0);
         switch (name) {
@@ -99,7 +98,7 @@ public final class ModelTest {
             case "film": args = ints(monk, near(24, 1), near(4, 0), lane(), near(24, 0)); break;
             case "sheet": args = ints(near(4, 0), lane(), near(25, 0)); break;
             case "drop": args = ints(random.nextInt(5) == 0 ? near(4, 0) : 9); break;
-            case "item": args = new Object[] {near(4, 0), lane(), near(24, 0), value()}; break;
+            case "item": args = ints(near(4, 0), lane(), near(24, 0), value()); break;
             case "copy": args = ints(near(4, 0), near(24, 0), near(4, 0), near(24, 0), near(25, 0)); break;
             default: args = ints(); break;
         }
@@ -110,28 +109,13 @@ public final class ModelTest {
         return compare(name, args);
     }
 
-    private boolean compare(String name, Object... args) throws ReflectiveOperationException {
-        int got = ask(x, name, args);
-        int want = ask(model, name, args);
-        String call = name + java.util.Arrays.toString(args);
+    private boolean compare(String name, long... args) {
+        int got = Ask.ask(x, name, args);
+        int want = Ask.ask(model, name, args);
+        String call = name + Arrays.toString(args);
         told.add(call + " = " + want);
         Due.due(call, got, want);
         return got == want;
-    }
-
-    private static int ask(Object target, String name, Object[] args) throws ReflectiveOperationException {
-        for (Method method : target.getClass().getDeclaredMethods()) {
-            if (method.getName().equals(name) && method.getParameterCount() == args.length
-                    && method.getReturnType() == int.class) {
-                try {
-                    return (Integer) method.invoke(target, args);
-                } catch (InvocationTargetException e) {
-                    e.getCause().printStackTrace(System.out);
-                    return Integer.MIN_VALUE;
-                }
-            }
-        }
-        throw new NoSuchMethodException(name);
     }
 
     /** A number of so many from the least on; seldom one beside them or far off. */
@@ -155,15 +139,11 @@ public final class ModelTest {
         return random.nextInt(4) == 0 ? random.nextLong() : near(9, 1);
     }
 
-    private static Object[] ints(int... values) {
-        Object[] all = new Object[values.length];
-        for (int i = 0; i < values.length; i++) {
-            all[i] = values[i];
-        }
-        return all;
+    private static long[] ints(long... values) {
+        return values;
     }
 
-    private boolean text() throws ReflectiveOperationException {
+    private boolean text() {
         StringBuilder text = new StringBuilder();
         int marks = 1 + random.nextInt(random.nextInt(9) == 0 ? 7 : 6);
         for (int i = 0; i < marks; i++) {
@@ -181,7 +161,7 @@ public final class ModelTest {
         }
         boolean same = true;
         for (int i = 0; i < text.length() && same; i++) {
-            same = compare("type", (int) text.charAt(i));
+            same = compare("type", text.charAt(i));
         }
         same = same && compare("rock");
         if (!same) {
