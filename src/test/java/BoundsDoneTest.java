@@ -86,6 +86,10 @@ public final class BoundsDoneTest {
         Script.run("P13 left over of one is 0", "'60.1;p99'=1 drift(1)=0 at(0,2)=0 drift(7)=0 at(0,2)=0 of(0,0)=28");
         Script.run("P13 the lowest 31 bits", "seed(MAX)=1 drift(1)=0 seed(0)=1043980748");
         Script.run("P13 from the least seed", "seed(0)=1 drift(1)=0 seed(1)=12345");
+        Script.run("P13 it is by 65536, by 128, cut: THE DRAW becomes 327679, 327680, the most, 0",
+            "'60.1,60.1,60.1,60.1,60.1,60.1;p9,p9,p9,p9,p9'=6 seed(649509662)=1 drift(1)=0 at(4,2)=3 seed(359704195)=327679 drift(1)=0",
+            "at(0,2)=4 seed(230538014)=327680 drift(1)=0 at(2,2)=3 seed(2088216195)=MAX drift(1)=0 at(0,2)=0 at(1,2)=NONE",
+            "seed(1)=0");
         Script.run("P13 nobody without marks", "monk(0,9)=0 drift(1)=0 at(0,2)=NONE seed(0)=1103527590");
         Script.run("P13 nobody without monks", "mark(9,1,0)=0 drift(1)=0 of(0,0)=9 seed(0)=1103527590");
         Script.run("P13 each with who is SENT one that may be UNDONE",

@@ -90,6 +90,11 @@ public final class BoundsForetoldTest {
         Script.run("P21 of like ones the first: who is not needed goes to 0",
             "'60.9,4.1;p9,p9'=2 sends(1,-1)=1 sends(1,0)=0 sends(1,1)=1");
         Script.run("P21 of like ones the first: the last is no better", "'4.1,4.1;p9'=2 sends(30,-1)=1 sends(30,0)=0");
+        Script.run("P21 each call by itself: fewer than ahead, none at all",
+            "'4.1,4.1,8.1;p9,p9'=3 sends(1,-1)=2 sends(2,1)=1 '60.9,4.1;p9'=2 sends(1,-1)=1 sends(1,0)=1 '60.9,60.9;p9,p9'=2",
+            "sends(1,-1)=0 sends(1,0)=0 sends(1,1)=0");
+        Script.run("P21 of five, where one MARK is GONE whoever comes", "'0.1,4.1;p9,p9,p9,p9,p9'=2 sends(1,-1)=2 sends(1,0)=0",
+            "sends(1,3)=0 sends(1,4)=1");
         Script.run("P21 the last choice of all", "'60.9,60.9,20.1;p9,p9,p9,p9,p9'=3 sends(1,-1)=1 sends(1,0)=2 sends(1,1)=2",
             "sends(1,2)=2 sends(1,3)=2 sends(1,4)=2");
     }
@@ -116,6 +121,10 @@ public final class BoundsForetoldTest {
             "'60.9,4.1;p9'=2 round(0,-1)=1 round(0,0)=1 round(0,1)=0");
         Script.run("P22 of like ones the first (by numbers, rising)",
             "'60.9,4.1,4.1;p9'=3 round(0,-1)=2 round(0,0)=1 round(0,1)=2 round(0,2)=0");
+        Script.run("P22 each order from now: what one order rubbed is not rubbed for the next",
+            "'8.9,4.1;p9'=2 round(0,-1)=1 round(0,0)=1 round(0,1)=0 round(0,-1)=1");
+        Script.run("P22 each call by itself: fewer than ahead, none at all",
+            "'60.9,4.1;p9'=2 round(0,-1)=1 round(0,0)=1 '60.9,60.9;p9'=2 round(0,-1)=0 round(0,0)=0 round(0,1)=1");
         Script.run("P22 his last rub counts as any", "'4.9,4.9;p10'=2 round(0,-1)=2 round(0,0)=0 round(0,1)=1");
         Script.run("P22 of like ones the first: all are GONE in any order",
             "'4.5,12.5;n31'=2 round(0,-1)=2 round(0,0)=0 round(0,1)=1");
@@ -144,6 +153,7 @@ public final class BoundsForetoldTest {
         Script.run("P23 the fewest RUBS ahead of the first pair", "'8.5;a1,p9'=1 pair(0,0)=1 pair(0,1)=10 pair(0,2)=0");
         Script.run("P23 then the first pair", "'8.5;p9,p9,p9,p9,a1'=1 pair(0,0)=1 pair(0,1)=4 pair(0,2)=0");
         Script.run("P23 i, j unlike, in any order", "'8.5;p0,a1'=1 pair(0,1)=1 'x'=-20 '8.5;a1,p0'=1 pair(0,1)=10");
+        Script.run("P23 each call by itself", "'4.1,60.1/21;p9,p9'=2 pair(0,0)=1 pair(1,0)=NONE pair(1,1)=NONE pair(0,0)=1");
         Script.run("P23 his last crumb is little: either is first once", "'8.9;p99,p1'=1 pair(0,0)=10 pair(0,1)=1 pair(0,2)=1");
     }
 

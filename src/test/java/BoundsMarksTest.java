@@ -43,6 +43,8 @@ public final class BoundsMarksTest {
         Script.run("P2 FULL leaves what may be UNDONE",
             "'1.1,1.1,1.1,1.1,1.1,1.1'=6 days(3)=0 mark(7,1,1)=FULL count(8)=3 undo()=2");
         Script.run("P2 BAD leaves what may be UNDONE", "days(3)=0 mark(61,1,1)=BAD count(8)=3 undo()=2");
+        Script.run("P2 WOOL 0 at first, though a TORN one had its number",
+            "image()=1 '60.1/5;s99'=1 press(0,0,60)=7 restore()=1 mark(9,1,0)=0 of(0,3)=0 of(0,5)=0 of(0,2)=0");
         Script.run("P2 a new mark leaves nothing to be UNDONE, the day stays",
             "days(3)=0 mark(1,1,1)=0 count(8)=0 undo()=NONE count(2)=3");
     }
@@ -58,6 +60,8 @@ public final class BoundsMarksTest {
         Script.run("P3 FULL leaves what may be UNDONE",
             "'1.1;p1,p1,p1,p1,p1'=1 days(3)=0 monk(0,1)=FULL count(8)=3 undo()=2");
         Script.run("P3 BAD leaves what may be UNDONE", "days(3)=0 monk(5,1)=BAD monk(1,100)=BAD count(8)=3 undo()=2");
+        Script.run("P3 SENT to none at first, though one who was had his number",
+            "mark(9,1,0)=0 image()=1 '9.1;p9>0'=1 restore()=1 monk(0,5)=0 at(0,2)=NONE of(0,6)=0");
         Script.run("P3 a new monk leaves nothing to be UNDONE, the day stays",
             "days(3)=0 monk(1,1)=0 count(8)=0 undo()=NONE count(2)=3");
     }
@@ -112,7 +116,14 @@ public final class BoundsMarksTest {
             "seed(0)=7");
         Script.run("P7 a TORN mark's place is not TORN in the next ROCK",
             "'60.1;s99'=1 press(0,0,60)=7 of(0,5)=1 '60.1'=1 of(0,5)=0 of(0,3)=0");
+        Script.run("P7 no WOOL, DAY 0, CRUMBS 0, though more was foretold",
+            "'60.1/9;s99>0'=1 days(1)=0 then(60,1)=1 dark(0,60)=4 '9.1;p9'=1 of(0,3)=0 of(0,2)=0 count(2)=0 count(3)=0 at(0,2)=NONE",
+            "count(5)=0");
         Script.run("P7 ninety letters", "'" + " ".repeat(87) + "9.1'=1");
+        Script.run("P7 ninety letters, the last a number's", "'" + " ".repeat(84) + "9.1;p7'=1 at(0,1)=7",
+            "'" + " ".repeat(85) + "9.1/5'=1 of(0,2)=5 '" + " ".repeat(89) + "6'=-110");
+        Script.run("P7 what was typed ahead of an earlier rock is not there",
+            "'60.1/60;p99>0'=1 '6'=-21 '60.1/6'=1 of(0,2)=6 '60.1/60;p9'=1 at(0,1)=9 at(0,2)=NONE '60.1/60;p'=-29 '60.1/'=-25");
         Script.run("P7 the ninetieth can't stand there", "'9.1" + " ".repeat(86) + "x'=-109");
         Script.run("P7 the end of ninety", "'9.1," + " ".repeat(86) + "'=-110");
     }
@@ -143,7 +154,7 @@ public final class BoundsMarksTest {
         Script.run("P7 p n s t a", "'9.1;q1'=-24 '9.1;P1'=-24 '9.1;1'=-24 '9.1;o1'=-24 '9.1;~'=-24");
         Script.run("P7 SIZE 0 .. 99", "'9.1;p0'=1 at(0,1)=0 '9.1;p99'=1 at(0,1)=99 '9.1;p'=-25 '9.1;px'=-25 '9.1;p-1'=-25");
         Script.run("P7 > and a digit of a mark there is: of one",
-            "'9.1;p1>0'=1 at(0,2)=0 '9.1;p1>1'=-27 '9.1;p1>9'=-27 '9.1;p1>'=-27 '9.1;p1>x'=-27 '9.1;p1>00'=-28");
+            "'9.1;p1>0'=1 at(0,2)=0 '9.1;p1>1'=-27 '9.1;p1>9'=-27 '9.1;p1>'=-27 '9.1;p1>/'=-27 '9.1;p1>00'=-28");
         Script.run("P7 > and a digit of a mark there is: of six",
             "'1.1,1.1,1.1,1.1,1.1,1.1;p1>5'=6 at(0,2)=5 '1.1,1.1,1.1,1.1,1.1,1.1;p1>6'=-47");
         Script.run("P7 > is not needed, and comes once", "'9.1;p1'=1 at(0,2)=NONE '9.1;p1>0>0'=-28 '9.1;p>0'=-25");

@@ -41,6 +41,8 @@ public final class BoundsSheetsTest {
     }
 
     private static void wornRows() {
+        Script.run("P28 how HARD the MARK to which he is SENT might be: the last of six",
+            "'9.1,9.1,9.1,9.1,9.1,60.4;p9,p60>5'=6 sheet(0,0,2)=2 film(1,2,0,0,0)=2 worn(1,0,0,0,2,1)=16 worn(0,0,0,0,2,1)=NOT");
         Script.run("P28 KINDS (a set): all, none", "'0.1;p5>0'=1 sheet(0,0,2)=2 film(0,2,0,0,0)=2 worn(0,0,0,0,2,0)=31",
             "item(0,0,1,4)=1 worn(0,0,0,0,2,0)=0 worn(0,0,0,0,1,0)=31");
         Script.run("P28 how HARD (1 .. 9, a set): all, none", "'0.1;p5>0'=1 sheet(0,0,1)=1 item(0,0,0,5)=1 worn(0,0,0,0,1,1)=1022",
