@@ -74,6 +74,8 @@ public final class BoundsForetoldTest {
         Script.run("P21 BAD: k below -1", "'4.1;p9'=1 sends(1,-2)=BAD sends(1,NONE)=BAD sends(1,MIN)=BAD sends(1,-1)=1");
         Script.run("P21 NONE: not so many", "'4.1;p9,p9'=1 sends(1,1)=0 sends(1,2)=NONE sends(1,5)=NONE sends(1,MAX)=NONE");
         Script.run("P21 NONE: no MARKS", "sends(1,-1)=0 sends(1,0)=NONE monk(0,9)=0 sends(1,-1)=0 sends(1,0)=NONE sends(1,1)=NONE");
+        Script.run("P21, P23 a number not as told is BAD, though there is none either", "sends(31,0)=BAD sends(-1,9)=BAD",
+            "mark(60,9,60)=0 pair(0,3)=BAD pair(0,-1)=BAD pair(0,0)=NONE monk(0,1)=0 sends(31,5)=BAD sends(30,5)=NONE");
         Script.run("P21 no MONKS: as many as are GONE", "'0.1,4.1,0.1'=3 sends(30,-1)=2 sends(30,0)=NONE");
         Script.run("P21 in no days: as many as are GONE", "'4.1,0.1;p9>1'=2 sends(0,-1)=1 sends(0,0)=0");
         Script.run("P21 those that are GONE already, too", "'0.1,4.1;p9'=2 sends(1,-1)=2 sends(1,0)=1");
